@@ -2,8 +2,8 @@
  * A search for the units by which old coins were struck: a coin weighs a small multiple of a unit,
  * less what wear may have taken.
  *
- * <p>All rows are made in the constructor and used again by every call, so that a long run of calls
- * makes nothing new. No call throws: each looks at its arguments first and answers an error number.
+ * <p>All rows are made once and used again by every call, so that a long run of calls makes nothing
+ * new. No call throws: each looks at its arguments first and answers an error number.
  */
 public final class CommonUnits {
     public static final int UNKNOWN = -1, OUTSIDE = -2, STATE = -3, FULL = -4, NONE = -9;
@@ -49,11 +49,12 @@ public final class CommonUnits {
     private final Hoard now = new Hoard();
     private final Hoard spare = new Hoard();
     private final Acts acts = new Acts();
-    private final Survey survey = new Survey();
     private final Crowd crowd = new Crowd();
     private final Sightings sightings = new Sightings();
     private final Hoard[] slots = new Hoard[SLOTS];
     private final boolean[] filled = new boolean[SLOTS];
+    /** By far the greatest part of the object, so it is made, once, only when a question needs it. */
+    private Survey survey;
     private long state;
 
     public CommonUnits() {
@@ -228,8 +229,7 @@ public final class CommonUnits {
             case 2:
                 return now.lossesOf(now.explainedBy(unit), unit);
             case 3:
-                survey.look(now);
-                return survey.rankOf(unit);
+                return surveyNow().rankOf(unit);
             default:
                 return OUTSIDE;
         }
@@ -239,26 +239,33 @@ public final class CommonUnits {
         if (rank < 0 || rank >= LAST_UNIT) {
             return UNKNOWN;
         }
-        survey.look(now);
-        return survey.unitOfRank(rank);
+        return surveyNow().unitOfRank(rank);
     }
 
     public int pair(int what) {
         if (what < 0 || what > 3) {
             return OUTSIDE;
         }
-        survey.look(now);
-        survey.findPair();
+        Survey units = surveyNow();
+        units.findPair();
         switch (what) {
             case 0:
-                return survey.lower;
+                return units.lower;
             case 1:
-                return survey.upper;
+                return units.upper;
             case 2:
-                return now.explainedBy(survey.lower) | now.explainedBy(survey.upper);
+                return now.explainedBy(units.lower) | now.explainedBy(units.upper);
             default:
-                return survey.pairLack % MISS;
+                return units.pairLack % MISS;
         }
+    }
+
+    private Survey surveyNow() {
+        if (survey == null) {
+            survey = new Survey();
+        }
+        survey.look(now);
+        return survey;
     }
 
     public int judge(int n, long row) {
@@ -339,8 +346,7 @@ public final class CommonUnits {
         if (now.counted() > CROWD_COINS) {
             return false;
         }
-        survey.look(now);
-        crowd.gather(survey, now.counted());
+        crowd.gather(surveyNow(), now.counted());
         return true;
     }
 
