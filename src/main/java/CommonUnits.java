@@ -236,9 +236,6 @@ public final class CommonUnits {
     }
 
     public int ranked(int rank) {
-        if (rank < 0 || rank >= LAST_UNIT) {
-            return UNKNOWN;
-        }
         return surveyNow().unitOfRank(rank);
     }
 
@@ -329,9 +326,10 @@ public final class CommonUnits {
         if (!now.hasCoin(coin)) {
             return UNKNOWN;
         }
-        if (!now.counts(coin) || !gatherCrowd()) {
+        if (!now.counts(coin) || now.counted() > CROWD_COINS) {
             return STATE;
         }
+        crowd.gather(surveyNow(), now.counted());
         return crowd.shareOf(now.placeOf(coin), upper);
     }
 
@@ -339,15 +337,11 @@ public final class CommonUnits {
         if (x < 0 || x > 10) {
             return OUTSIDE;
         }
-        return gatherCrowd() ? crowd.chanceOfUnit(x, upper) : STATE;
-    }
-
-    private boolean gatherCrowd() {
         if (now.counted() > CROWD_COINS) {
-            return false;
+            return STATE;
         }
         crowd.gather(surveyNow(), now.counted());
-        return true;
+        return crowd.chanceOfUnit(x, upper);
     }
 
     public long seed(long v) {
@@ -523,7 +517,7 @@ public final class CommonUnits {
             return mint >= 0 && mint < mints;
         }
 
-        /** Whether there is such a coin, not aside. */
+        /** Whether there is such a coin and it is not aside. */
         boolean counts(int coin) {
             return hasCoin(coin) && asides[coin] == 0;
         }
@@ -607,11 +601,11 @@ public final class CommonUnits {
 
         private int mintFor(int weight, int wear) {
             int best = NONE;
-            int least = MISS;
+            int least = NONE;
             for (int mint = 0; mint < mints; mint++) {
-                int lack = Fit.lack(weight, wear, units[mint]);
-                if (lack < least) {
-                    least = lack;
+                int loss = Fit.loss(weight, wear, units[mint]);
+                if (loss != NONE && (least == NONE || loss < least)) {
+                    least = loss;
                     best = mint;
                 }
             }
@@ -695,10 +689,7 @@ public final class CommonUnits {
 
         /** Whether the coin that is drawn by v is found to be of the mint that struck it. */
         boolean recognizes(int v) {
-            if (mints < 1) {
-                return false;
-            }
-            int mint = v % mints;
+            int mint = mints < 1 ? NONE : v % mints;
             if (!hasMint(mint)) {
                 return false;
             }

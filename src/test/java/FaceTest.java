@@ -18,7 +18,8 @@ public final class FaceTest {
 
     public static void main(String[] args) {
         Class<?> type = CommonUnits.class;
-        CHECK.holds("public and final", Modifier.isPublic(type.getModifiers()) && Modifier.isFinal(type.getModifiers()));
+        CHECK.holds("public", Modifier.isPublic(type.getModifiers()));
+        CHECK.holds("final", Modifier.isFinal(type.getModifiers()));
         methods(type);
         fields(type);
         Constructor<?>[] constructors = type.getDeclaredConstructors();

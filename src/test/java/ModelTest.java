@@ -215,6 +215,7 @@ public final class ModelTest {
                 int n = near(1, 3);
                 long row = someRow(n);
                 same("judge(" + n + "," + row + ")", units.judge(n, row), model.judge(n, row));
+                claimAfter(row / 1000000 % 1000000);
                 break;
             }
             case 9: {
@@ -254,6 +255,15 @@ public final class ModelTest {
                 same("fault()", units.fault(), model.fault());
                 break;
             }
+        }
+    }
+
+    /** One step and then every claim about one coin: the true one tells what the step has done. */
+    private void claimAfter(long step) {
+        int coin = Math.min(99, Math.max(0, someCoin()));
+        for (int mint : new int[] {0, 1, 2, 9}) {
+            long row = step * 1000000 + 500000 + coin * 1000 + mint * 100;
+            same("judge(2," + row + ")", units.judge(2, row), model.judge(2, row));
         }
     }
 

@@ -232,6 +232,9 @@ public final class PromiseTest {
         due("the seed stays", x.seed(0), 77);
         due("no second coin", x.coin(1, 0), UNKNOWN);
         due("hoard() again", x.hoard(), 1);
+        x.judge(1, 300000);
+        due("hoard() after judge()", x.hoard(), 1);
+        due("none aside", x.count(5), 0);
         Check.type(x, "H10");
         due("hoard() of none", x.hoard(), 0);
         due("coins", x.count(1), 0);
@@ -349,6 +352,9 @@ public final class PromiseTest {
     private static void aside() {
         promise = 10;
         CommonUnits x = Check.of("H10c0483c0604c0010");
+        due("aside(0)", x.aside(0), 1);
+        due("set", x.count(5), 1);
+        x.undo();
         due("aside(1)", x.aside(1), 1);
         due("aside(2)", x.aside(2), 1);
         due("set", x.count(5), 6);
@@ -711,11 +717,22 @@ public final class PromiseTest {
         judged(x, 2, 100098500900L, 1);
         judged(x, 3, 702000100093500100L, NONE);
         judged(x, 3, 700000100093500100L, 2);
+        judged(x, 3, 200600100093500100L, NONE);
+        judged(x, 3, 200600100093500900L, 2);
+        judged(x, 3, 200500100093500900L, NONE);
+        judged(x, 3, 201100101032501100L, NONE);
+        judged(x, 2, 101032501100L, 1);
         judged(x, 2, 500000L, 0);
         judged(x, 3, 500900500900500900L, 0);
         judged(x, 3, 500000500900500900L, 1);
         judged(x, 3, 500000500000800000L, 2);
         judged(x, 3, 999999999999999999L, 0);
+        due("a false claim", x.judge(1, 500900), 0);
+        x.clean(0, 7);
+        due("judge() after a change", x.judge(1, 500900), NONE);
+        x.aside(0);
+        due("judge() after another", x.judge(1, 600060), NONE);
+        due("the smallest unit has rank 0", Check.of("H00c0010").judge(1, 600001), NONE);
         error(x, "judge(0, 0)", () -> x.judge(0, 0), OUTSIDE);
         error(x, "judge(4, 0)", () -> x.judge(4, 0), OUTSIDE);
         error(x, "judge(-1, 0)", () -> x.judge(-1, 0), OUTSIDE);
@@ -917,7 +934,32 @@ public final class PromiseTest {
             known += 1 + v / 4 % 12 - v / 1024 % (9 * (v / 64 % 10) + 1) >= 1 ? 1 : 0;
         }
         due("drawn(20) of worn ones", worn.drawn(20), known);
-        CHECK.holds("some of the worn ones are known, some not", known > 0 && known < 20);
+        due("drawn(20) once more", worn.seed(0), seed);
+        // Three mints and much wear: what one of them strikes may be nearer to another.
+        CommonUnits mixed = Check.of("H50m070m110m097");
+        int[] units = {70, 110, 97};
+        seed = 0;
+        known = 0;
+        for (int k = 0; k < 20; k++) {
+            seed = seed * 6364136223846793005L + 1442695040888963407L;
+            int v = (int) (seed >>> 33);
+            int wear = 5 * (v / 64 % 10);
+            int weight = (1 + v / 4 % 12) * units[v % 3] - v / 1024 % (wear + 1);
+            int best = -1;
+            int least = wear + 1;
+            for (int mint = 0; mint < 3; mint++) {
+                for (int n = 1; n <= 12; n++) {
+                    int loss = n * units[mint] - weight;
+                    if (loss >= 0 && loss < least) {
+                        least = loss;
+                        best = mint;
+                    }
+                }
+            }
+            known += best == v % 3 ? 1 : 0;
+        }
+        due("drawn(20) of three mints", mixed.drawn(20), known);
+        CHECK.holds("some of three mints are known, some not", known > 0 && known < 20);
     }
 
     private static void keep() {
