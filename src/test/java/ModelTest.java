@@ -58,7 +58,7 @@ public final class ModelTest {
         text.append(random.nextInt(10)).append(random.nextInt(3));
         int coins = random.nextInt(4) == 0 ? 12 : random.nextInt(13);
         int mints = random.nextInt(4);
-        int most = new int[] {999, 999, 300, 60}[random.nextInt(4)];
+        int most = new int[] {999, 999, 300, 60, 3}[random.nextInt(5)];
         if (spoiled && random.nextBoolean()) {
             coins = 13;
         }
