@@ -230,7 +230,8 @@ public final class ActEdgesTest {
     }
 
     private static void questionsAskNow() {
-        edges.sentence("All questions refer to coins, mints, the rate and the wear rule as they are when they are asked.");
+        edges.sentence("All questions refer to coins, mints, the rate and the wear rule as they are when they are"
+            + " asked.");
         String text = "H11c0605c0418c1003m020";
         Map<String, Edges.Call> changes = new LinkedHashMap<>();
         changes.put("H11c0635c0418c1003m020", x -> x.clean(0, 63));
@@ -265,7 +266,8 @@ public final class ActEdgesTest {
     }
 
     private static void clean() {
-        edges.sentence("Returns the weight before; UNKNOWN if there is no such coin; OUTSIDE if weight is out of range.");
+        edges.sentence("Returns the weight before; UNKNOWN if there is no such coin; OUTSIDE if weight is out of"
+            + " range.");
         CommonUnits x = small();
         edges.due("clean(1, 999)", x.clean(1, 999), 60);
         edges.due("clean(1, 1)", x.clean(1, 1), 999);
@@ -301,6 +303,12 @@ public final class ActEdgesTest {
     }
 
     private static void aside() {
+        edges.sentence("Puts a coin aside if it is not aside, and takes it back if it is.");
+        CommonUnits three = Check.of("H10c1005c1005c1005");
+        for (int k = 1; k <= 20; k++) {
+            edges.due("aside(1), time " + k, three.aside(1), k % 2);
+            edges.due("those aside", three.count(5), 2 * (k % 2));
+        }
         edges.sentence("Returns 1 if it is aside then, 0 if not; UNKNOWN if there is no such coin.");
         CommonUnits x = Check.of("H10" + "c1005".repeat(12));
         edges.due("aside(0)", x.aside(0), 1);
@@ -362,7 +370,8 @@ public final class ActEdgesTest {
     }
 
     private static void undo() {
-        edges.sentence("weights, years, coins that are aside, units, the rate and the wear rule become as they were before it.");
+        edges.sentence("weights, years, coins that are aside, units, the rate and the wear rule become as they were"
+            + " before it.");
         for (Map.Entry<String, Edges.Call> act : actsThatChange().entrySet()) {
             CommonUnits x = Edges.rich();
             String before = Probe.of(Edges.rich());
@@ -409,8 +418,8 @@ public final class ActEdgesTest {
             edges.refused(Edges::rich, "keep(" + slot + ")", x -> x.keep(slot), UNKNOWN);
             edges.refused(CommonUnits::new, "keep(" + slot + ")", x -> x.keep(slot), UNKNOWN);
         }
-        edges.sentence("Keeps the weights, the years, which coins are aside, the units, the rate and the wear rule in a slot,"
-            + " in place of what is there.");
+        edges.sentence("Keeps the weights, the years, which coins are aside, the units, the rate and the wear rule in"
+            + " a slot, in place of what is there.");
         for (Map.Entry<String, Edges.Call> act : actsThatChange().entrySet()) {
             for (int slot = 0; slot <= 1; slot++) {
                 CommonUnits x = small();

@@ -1,4 +1,5 @@
 import java.math.BigInteger;
+import java.util.Arrays;
 
 /** The edges of "Fractions" and of the promises 21 to 27 and 30, sentence by sentence. */
 public final class ChanceEdgesTest {
@@ -26,6 +27,7 @@ public final class ChanceEdgesTest {
         seedWrapsAround();
         drawnCoins();
         drawnAtTheEdges();
+        drawnFromNegativeSeeds();
         drawnByMints();
         drawnErrors();
         count();
@@ -34,7 +36,7 @@ public final class ChanceEdgesTest {
     }
 
     private static CommonUnits primes(int number) {
-        return Check.of(Edges.coins("H00", java.util.Arrays.copyOf(PRIMES, number)));
+        return Check.of(Edges.coins("H00", Arrays.copyOf(PRIMES, number)));
     }
 
     // ---- seen
@@ -61,8 +63,8 @@ public final class ChanceEdgesTest {
     }
 
     private static void see() {
-        edges.sentence("Returns the number of observations; UNKNOWN if there is no such coin; OUTSIDE if was is not 0 or 1;"
-            + " FULL if there are 6 observations.");
+        edges.sentence("Returns the number of observations; UNKNOWN if there is no such coin; OUTSIDE if was is not 0"
+            + " or 1; FULL if there are 6 observations.");
         for (int was : new int[] {-1, 2, MIN, MAX}) {
             edges.refused(Edges::rich, "see(2, " + was + ")", x -> x.see(2, was), OUTSIDE);
             edges.refused(Edges::rich, "see(3, " + was + ")", x -> x.see(3, was), UNKNOWN);
@@ -173,8 +175,8 @@ public final class ChanceEdgesTest {
     // ---- shares, chances
 
     private static void shares() {
-        edges.sentence("The share is the mean value of the set of all coins that have arrived after this coin has arrived,"
-            + " minus that before.");
+        edges.sentence("The share is the mean value of the set of all coins that have arrived after this coin has"
+            + " arrived, minus that before.");
         for (int number = 1; number <= 8; number++) {
             CommonUnits apart = primes(number);
             CommonUnits together = Check.of("H00" + "c0120".repeat(number));
@@ -183,6 +185,13 @@ public final class ChanceEdgesTest {
                 edges.all("share of one of " + number + " that go together", Edges.shareOf(together, coin), 1, 1);
             }
         }
+        edges.sentence("(0 for the empty set)");
+        edges.all("the only coin", Edges.shareOf(Check.of("H00c0120"), 0), 1, 1);
+        CommonUnits left = primes(2);
+        left.aside(0);
+        edges.all("the only coin that is not aside", Edges.shareOf(left, 1), 1, 1);
+        edges.sentence("The value of a set of coins is the number of coins that the unit of rank 0 explains if all"
+            + " other coins are aside");
         CommonUnits x = Check.of("H00c0120c0240c0350");
         edges.all("one of two that go together", Edges.shareOf(x, 0), 5, 6);
         edges.all("the other one", Edges.shareOf(x, 1), 5, 6);
@@ -208,8 +217,8 @@ public final class ChanceEdgesTest {
     }
 
     private static void shareErrors() {
-        edges.sentence("Returns that number; UNKNOWN if there is no such coin; STATE if the coin is aside or more than 8 coins are"
-            + " not aside.");
+        edges.sentence("Returns that number; UNKNOWN if there is no such coin; STATE if the coin is aside or more than"
+            + " 8 coins are not aside.");
         edges.all("eight of twelve are not aside", Edges.shareOf(twelve(4), 11), 1, 8);
         edges.all("eight of eight", Edges.shareOf(primes(8), 7), 1, 8);
         for (boolean upper : new boolean[] {true, false}) {
@@ -229,8 +238,8 @@ public final class ChanceEdgesTest {
     }
 
     private static void losses() {
-        edges.sentence("Returns the probability that there is a unit which all coins that are left fit (also if none are left), if"
-            + " each coin that is not aside is lost with the probability x / 10, independently.");
+        edges.sentence("Returns the probability that there is a unit which all coins that are left fit (also if none"
+            + " are left), if each coin that is not aside is lost with the probability x / 10, independently.");
         edges.all("without coins, 0", Edges.lostOf(new CommonUnits(), 0), 1, 1);
         edges.all("without coins, 10", Edges.lostOf(new CommonUnits(), 10), 1, 1);
         // Apart: at most one may be left.
@@ -280,12 +289,26 @@ public final class ChanceEdgesTest {
         edges.sentence("A fraction is given in lowest terms with a positive denominator (0 is 0/1)");
         CommonUnits two = primes(2);
         edges.all("0", Edges.lostOf(two, 0), 0, 1);
-        int[][] wants = {{19, 100}, {9, 25}, {51, 100}, {16, 25}, {3, 4}, {21, 25}, {91, 100}, {24, 25}, {99, 100}, {1, 1}};
+        int[][] wants = {{19, 100}, {9, 25}, {51, 100}, {16, 25}, {3, 4}, {21, 25}, {91, 100}, {24, 25},
+            {99, 100}, {1, 1}};
         for (int tenths = 1; tenths <= 10; tenths++) {
             edges.all("1 - (1 - " + tenths + "/10)^2", Edges.lostOf(two, tenths), wants[tenths - 1]);
         }
         edges.all("1/2", Edges.shareOf(two, 0), 1, 2);
         edges.all("1", Edges.shareOf(Check.of("H00c0120c0240"), 0), 1, 1);
+        edges.sentence("the numerator, which can be negative, if the argument upper is true, the denominator if it is"
+            + " false.");
+        edges.due("lost(3, true)", two.lost(3, true), 51);
+        edges.due("lost(3, false)", two.lost(3, false), 100);
+        edges.due("share(1, true)", two.share(1, true), 1);
+        edges.due("share(1, false)", two.share(1, false), 2);
+        edges.sentence("Errors are the same in both cases.");
+        for (boolean upper : new boolean[] {true, false}) {
+            edges.due("share(2)", two.share(2, upper), UNKNOWN);
+            edges.due("lost(11)", two.lost(11, upper), OUTSIDE);
+            edges.due("share(0) of a coin aside", twelve(4).share(0, upper), STATE);
+            edges.due("lost(0) of nine", twelve(3).lost(0, upper), STATE);
+        }
     }
 
     // ---- the seed
@@ -296,7 +319,7 @@ public final class ChanceEdgesTest {
     }
 
     private static void seed() {
-        edges.sentence("Sets the seed of drawn().");
+        edges.sentence("Returns the seed before.");
         CommonUnits x = new CommonUnits();
         long[] seeds = {0, 1, -1, Long.MAX_VALUE, Long.MIN_VALUE, 1L << 32, 1L << 31, -(1L << 32), 5};
         long before = 0;
@@ -304,6 +327,7 @@ public final class ChanceEdgesTest {
             edges.due("seed(" + seed + ")", x.seed(seed), before);
             before = seed;
         }
+        edges.sentence("Sets the seed of drawn().");
         edges.due("acts", x.count(7), 0);
         edges.due("seed(12345) of this state", Edges.rich().seed(12345), 12345);
         edges.changingNothing(Edges::rich, "seed(12345)", y -> y.seed(12345));
@@ -367,7 +391,8 @@ public final class ChanceEdgesTest {
     }
 
     private static void drawnCoins() {
-        edges.sentence("Returns how many of them are recognized (0 without mints)");
+        edges.sentence("with the multiple n = 1 + v / 4 % 12, and is v / 64 % 10 years old; the wear has taken v /"
+            + " 1024 % (its greatest wear + 1), so that its weight is n times the unit of the mint minus this");
         int[][] mints = {{1}, {999}, {2, 3}, {100, 100}, {70, 110, 97}, {1, 999, 1}, {999, 998, 997}, {500, 250, 125}};
         for (int[] units : mints) {
             for (int rate : new int[] {0, 1, 5, 9}) {
@@ -376,6 +401,7 @@ public final class ChanceEdgesTest {
                 }
             }
         }
+        edges.sentence("Returns how many of them are recognized (0 without mints)");
         CommonUnits x = new CommonUnits();
         for (int m = 1; m <= 20; m++) {
             edges.due("drawn(" + m + ") without mints", x.drawn(m), 0);
@@ -422,6 +448,20 @@ public final class ChanceEdgesTest {
         edges.due("the heaviest coin", heaviest, 12 * 999);
     }
 
+    /** A seed below 0 has its highest bit in v, too. */
+    private static void drawnFromNegativeSeeds() {
+        edges.sentence("let v be (int) (x >>> 33)");
+        int negative = 0;
+        for (long start = 0; start < 100; start++) {
+            long seed = next(start);
+            negative += seed < 0 ? 1 : 0;
+            CommonUnits x = Check.of("H50m070m110m097");
+            x.seed(start);
+            edges.due("drawn(1) from " + start, x.drawn(1), recognized(seed, 5, 0, 70, 110, 97));
+        }
+        edges.holds("seeds of both signs", negative > 20 && negative < 80);
+    }
+
     private static void drawnByMints() {
         edges.sentence("The coin is struck by mint v % (number of mints)");
         // Of mints with the same unit the first one is the mint of every coin.
@@ -460,12 +500,15 @@ public final class ChanceEdgesTest {
             edges.refused(Edges::rich, "count(" + what + ")", x -> x.count(what), OUTSIDE);
             edges.refused(CommonUnits::new, "count(" + what + ")", x -> x.count(what), OUTSIDE);
         }
+        edges.sentence("0 for the length of the text, 1 for the number of coins, 2 for the number of mints, 3 for the"
+            + " rate, 4 for the wear rule, 5 for the set of the coins that are aside");
         int[] wants = {12, 3, 2, 2, 2, 4, 2, 6, 2};
         for (int what = 0; what <= 8; what++) {
             int asked = what;
             edges.asked(Edges::rich, "count(" + what + ")", x -> x.count(asked), wants[what]);
         }
-        edges.sentence("5 for the set of the coins that are aside, 6 for the set of the coins that are false and not aside");
+        edges.sentence("5 for the set of the coins that are aside, 6 for the set of the coins that are false and not"
+            + " aside");
         CommonUnits x = primes(12);
         edges.due("all are false without mints", x.count(6), 4095);
         x.aside(11);
@@ -486,8 +529,8 @@ public final class ChanceEdgesTest {
     }
 
     private static void noneIsNoError() {
-        edges.sentence("NONE (-9) means that there is no such thing; it is not an error, and it is returned only if no error"
-            + " applies.");
+        edges.sentence("NONE (-9) means that there is no such thing; it is not an error, and it is returned only if no"
+            + " error applies.");
         CommonUnits x = Check.of("H10c0505");
         x.see(0, 1);
         x.see(0, 0);

@@ -250,11 +250,18 @@ public final class CoinEdgesTest {
             x.setRate(9);
             edges.due("rate 9, years " + age, x.coin(age, 2), ofNine[age]);
         }
+        edges.sentence("(divisions are rounded down)");
+        CommonUnits y = Check.of(Edges.coins("H31", 1005, 1007, 1001, 1003));
+        edges.due("12 + 3 / 2", y.coin(0, 2), 13);
+        edges.due("12 + 9 / 2", y.coin(1, 2), 16);
+        y.setLaw(2);
+        edges.due("3 / 4", y.coin(2, 2), 0);
+        edges.due("27 / 4", y.coin(3, 2), 6);
     }
 
     private static void fittingAtBothEnds() {
-        edges.sentence("A coin fits a unit u if there is a number n from 1 to 12 such that n * u is at least its weight,"
-            + " and at most its weight plus its greatest wear.");
+        edges.sentence("A coin fits a unit u if there is a number n from 1 to 12 such that n * u is at least its"
+            + " weight, and at most its weight plus its greatest wear.");
         CommonUnits x = Check.of(Edges.coins("H10", 1005, 1200, 1210, 1219, 1190, 1191));
         edges.due("n is 1, n * u is the weight", x.fits(0, 100, 0), 1);
         edges.due("n is 1, n * u is one below the weight", x.fits(0, 99, 0), NONE);
@@ -314,8 +321,8 @@ public final class CoinEdgesTest {
     }
 
     private static void excess() {
-        edges.sentence("For the reasons 2 and 3, the excess is the smallest n * u, n from 1 to 12, that is at least the"
-            + " weight, minus the weight, minus the greatest wear.");
+        edges.sentence("For the reasons 2 and 3, the excess is the smallest n * u, n from 1 to 12, that is at least"
+            + " the weight, minus the weight, minus the greatest wear.");
         CommonUnits x = Check.of(Edges.coins("H10", 1005, 1000));
         edges.due("heavy, the wear taken off", x.fits(0, 200, 3), 95);
         edges.due("heavy without wear", x.fits(1, 200, 3), 100);
@@ -362,11 +369,12 @@ public final class CoinEdgesTest {
     }
 
     private static void smallestLoss() {
-        edges.sentence("A coin is of the mint whose unit it fits with the smallest loss,"
-            + " of several the mint with the smallest number.");
+        edges.sentence("A coin is of the mint whose unit it fits with the smallest loss, of several the mint with the"
+            + " smallest number.");
         // 50 with up to 5 of wear: 54 is 3 * 18, 51 is 3 * 17 and 51, 50 is 10 * 5 and 50.
-        String[] texts = {"m018m017m005", "m018m005m017", "m005m018m017", "m017m051m018", "m018m051m017", "m050m005m025",
-            "m055m054m053", "m053m054m055", "m055m055m055", "m056m056m055", "m056m055m055", "m049m047m050"};
+        String[] texts = {"m018m017m005", "m018m005m017", "m005m018m017", "m017m051m018", "m018m051m017",
+            "m050m005m025", "m055m054m053", "m053m054m055", "m055m055m055", "m056m056m055", "m056m055m055",
+            "m049m047m050"};
         int[] wants = {2, 1, 0, 0, 1, 0, 2, 0, 0, 2, 1, 2};
         for (int k = 0; k < texts.length; k++) {
             edges.due("mint of " + texts[k], Check.of("H10c0505" + texts[k]).coin(0, 4), wants[k]);
@@ -408,8 +416,8 @@ public final class CoinEdgesTest {
     }
 
     private static void newObject() {
-        edges.sentence("Creates an object without coins and mints, as described above, with an empty text, no observations"
-            + " and the seed 0; nothing can be undone, and all slots are empty.");
+        edges.sentence("Creates an object without coins and mints, as described above, with an empty text, no"
+            + " observations and the seed 0; nothing can be undone, and all slots are empty.");
         CommonUnits x = new CommonUnits();
         int[] counts = {0, 0, 0, 1, 0, 0, 0, 0, 0};
         for (int what = 0; what <= 8; what++) {
@@ -439,6 +447,8 @@ public final class CoinEdgesTest {
         }
         edges.refused(Edges::rich, "coin(3, 5)", x -> x.coin(3, 5), UNKNOWN);
         edges.refused(Edges::rich, "coin(-1, 0)", x -> x.coin(-1, 0), UNKNOWN);
+        edges.sentence("0 for its weight, 1 for its years, 2 for its greatest wear, 3 for whether it is aside (1 or"
+            + " 0), 4 for the mint that it is of (NONE if it is false), 5 for the number of mints whose units it fits");
         // In this state the rate is 2 by rule 2; coin 2 weighs 48, is new and aside; the units are 48 and 33.
         int[] last = {48, 0, 0, 1, 0, 1};
         int[] middle = {60, 3, 4, 0, NONE, 0};
@@ -466,8 +476,8 @@ public final class CoinEdgesTest {
             int asked = what;
             edges.asked(Edges::rich, "mint(0, " + what + ")", x -> x.mint(0, asked), first[what]);
         }
-        edges.sentence("1 for the set of the coins that are of it and not aside (bit k for coin k), 2 for their number,"
-            + " 3 for the sum of their losses by its unit");
+        edges.sentence("1 for the set of the coins that are of it and not aside (bit k for coin k), 2 for their"
+            + " number, 3 for the sum of their losses by its unit");
         edges.all("a mint without coins", Edges.mintAll(Check.of("H10m005"), 0), 5, 0, 0, 0);
         // Twelve coins of 1 that may have lost 182 each.
         CommonUnits x = Check.of("H92" + "c0019".repeat(12) + "m183m184");

@@ -61,7 +61,8 @@ public final class JudgeEdgesTest {
             long first = size;
             edges.asked(Edges::rich, "judge(" + n + ", " + (first - 1) + ")", x -> x.judge(steps, first - 1), 0);
             edges.asked(Edges::rich, "judge(" + n + ", 0)", x -> x.judge(steps, 0), 0);
-            for (long row : new long[] {first, first + 702000, first * 7 + 2000, -1, -702000, Long.MIN_VALUE, Long.MAX_VALUE}) {
+            long[] rows = {first, first + 702000, first * 7 + 2000, -1, -702000, Long.MIN_VALUE, Long.MAX_VALUE};
+            for (long row : rows) {
                 edges.refused(Edges::rich, "judge(" + n + ", " + row + ")", x -> x.judge(steps, row), OUTSIDE);
             }
         }
@@ -71,7 +72,8 @@ public final class JudgeEdgesTest {
     }
 
     private static void highestDigitsFirst() {
-        edges.sentence("each of which is given by six decimal digits, those of the first step being the highest ones of a number");
+        edges.sentence("each of which is given by six decimal digits, those of the first step being the highest ones"
+            + " of a number");
         steps(hoard(), 1, 702000L, NONE);
         // The digits that are not written are noughts, and no step begins with one.
         steps(hoard(), 2, 702000L, 0);
@@ -201,7 +203,8 @@ public final class JudgeEdgesTest {
 
     /** All numbers of six digits, as the forms say. */
     private static void everyStep() {
-        edges.sentence("A step is impossible if it does not have one of these forms, or if there is no such coin or mint.");
+        edges.sentence("A step is impossible if it does not have one of these forms, or if there is no such coin or"
+            + " mint.");
         CommonUnits x = hoard();
         int wrong = 0;
         for (int step = 0; step <= 999999; step++) {
@@ -232,7 +235,8 @@ public final class JudgeEdgesTest {
             case '4':
                 return digits.charAt(1) <= '1' && digits.charAt(2) == '0' && number;
             case '5':
-                return coin && digits.endsWith(digits.startsWith("501") ? "100" : digits.startsWith("502") ? "900" : "000");
+                String claim = digits.startsWith("501") ? "100" : digits.startsWith("502") ? "900" : "000";
+                return coin && digits.endsWith(claim);
             case '6':
                 return digits.equals("600100");
             case '7':
@@ -243,7 +247,8 @@ public final class JudgeEdgesTest {
     }
 
     private static void oneAfterTheOther() {
-        edges.sentence("The steps are done one after the other, from the present state on; claims are checked as things are then.");
+        edges.sentence("The steps are done one after the other, from the present state on; claims are checked as"
+            + " things are then.");
         // Coin 1 may have lost 5: 99 is 3 * 33. Coin 2 too: 99. Coin 3 would need 6.
         CommonUnits x = Check.of("H10c1005c0965c0945c0935m050m033");
         // A weight: 103 to 108 is no multiple.
@@ -300,10 +305,11 @@ public final class JudgeEdgesTest {
     }
 
     private static void firstThatFails() {
-        edges.sentence("Returns the index, from 0, of the first step that is impossible or is a claim that is not true;"
-            + " NONE if there is none");
+        edges.sentence("Returns the index, from 0, of the first step that is impossible or is a claim that is not"
+            + " true; NONE if there is none");
         long[] good = {100100, 200500, 300000, 400050, 500000, 700000};
-        long[] bad = {0, 100000, 111001, 211000, 311000, 420001, 500100, 500900, 511900, 600099, 600000, 703000, 800000, 999999};
+        long[] bad = {0, 100000, 111001, 211000, 311000, 420001, 500100, 500900, 511900, 600099, 600000, 703000,
+            800000, 999999};
         for (long right : good) {
             for (long wrong : bad) {
                 steps(hoard(), 1, wrong, 0);
@@ -323,10 +329,11 @@ public final class JudgeEdgesTest {
 
     /** Every run of three out of some steps, beside the model. */
     private static void threeSteps() {
-        edges.sentence("The steps are done one after the other, from the present state on; claims are checked as things are then.");
+        edges.sentence("The steps are done one after the other, from the present state on; claims are checked as"
+            + " things are then.");
         String text = "H10c1005c0965m050m033";
-        long[] steps = {100096, 101103, 200000, 201200, 300000, 301000, 400048, 410048, 500000, 500900, 501100, 501900, 600100,
-            600101, 701000, 999999};
+        long[] steps = {100096, 101103, 200000, 201200, 300000, 301000, 400048, 410048, 500000, 500900, 501100, 501900,
+            600100, 600101, 701000, 999999};
         Model model = new Model();
         for (int k = 0; k < text.length(); k++) {
             model.write(text.charAt(k));

@@ -59,8 +59,8 @@ public final class TextEdgesTest {
     }
 
     private static void letters() {
-        edges.sentence("Returns the length of the text then; OUTSIDE if letter is out of range;"
-            + " FULL if there are 130 characters.");
+        edges.sentence("Returns the length of the text then; OUTSIDE if letter is out of range; FULL if there are 130"
+            + " characters.");
         CommonUnits low = new CommonUnits();
         CommonUnits high = new CommonUnits();
         for (int letter = 0; letter <= 127; letter++) {
@@ -90,8 +90,8 @@ public final class TextEdgesTest {
     }
 
     private static void head() {
-        edges.sentence("The text of a hoard consists of the letter H, a digit for the rate (0 to 9) and a digit for the"
-            + " wear rule (0 to 2)");
+        edges.sentence("The text of a hoard consists of the letter H, a digit for the rate (0 to 9) and a digit for"
+            + " the wear rule (0 to 2)");
         for (int rate = 0; rate <= 9; rate++) {
             for (int law = 0; law <= 9; law++) {
                 faultOf("H" + rate + law, law <= 2 ? NONE : 2);
@@ -162,8 +162,8 @@ public final class TextEdgesTest {
         edges.sentence("Its fault is the position (from 0) of the first character that is not allowed at its place");
         String text = "H92c1234m567c8900";
         String digits = "0123456789";
-        String[] allowed = {"H", digits, "012", "cm", digits, digits, digits, digits, "cm", digits, digits, digits, "cm",
-            digits, digits, digits, digits, "cm"};
+        String[] allowed = {"H", digits, "012", "cm", digits, digits, digits, digits, "cm", digits, digits, digits,
+            "cm", digits, digits, digits, digits, "cm"};
         for (int place = 0; place < allowed.length; place++) {
             boolean whole = place == 2 || place == 7 || place == 11 || place == 16;
             for (int letter = 0; letter <= 255; letter++) {

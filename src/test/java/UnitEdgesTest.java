@@ -28,8 +28,8 @@ public final class UnitEdgesTest {
     }
 
     private static void fits() {
-        edges.sentence("Returns that value; UNKNOWN if there is no such coin; OUTSIDE if unit is out of range or what is not"
-            + " 0 to 3.");
+        edges.sentence("Returns that value; UNKNOWN if there is no such coin; OUTSIDE if unit is out of range or what"
+            + " is not 0 to 3.");
         CommonUnits x = Check.of("H10c0010c9990");
         edges.all("the smallest unit", Edges.fitsAll(x, 0, 1), 1, 0, 0, 0);
         edges.all("the greatest unit", Edges.fitsAll(x, 1, 999), 1, 0, 0, 0);
@@ -47,8 +47,8 @@ public final class UnitEdgesTest {
         }
         edges.refused(Edges::rich, "fits(3, 1, 0)", y -> y.fits(3, 1, 0), UNKNOWN);
         edges.refused(CommonUnits::new, "fits(0, 1, 0)", y -> y.fits(0, 1, 0), UNKNOWN);
-        edges.sentence("0 for the multiple (NONE if it does not fit), 1 for the loss (NONE if it does not fit), 2 for the"
-            + " reason (0 if it fits), 3 for the excess (0 if it fits)");
+        edges.sentence("0 for the multiple (NONE if it does not fit), 1 for the loss (NONE if it does not fit), 2 for"
+            + " the reason (0 if it fits), 3 for the excess (0 if it fits)");
         // Coin 2 of this state weighs 48 and is new and aside.
         int[] fitting = {2, 0, 0, 0};
         int[] failing = {NONE, NONE, 2, 1};
@@ -60,8 +60,9 @@ public final class UnitEdgesTest {
     }
 
     private static void chain() {
-        edges.sentence("Returns the reason why it does not fit the unit of mint (number of mints) - 1 - k; NONE if the coin is"
-            + " not false or there is no such mint; UNKNOWN if there is no such coin; OUTSIDE if k is negative.");
+        edges.sentence("Returns the reason why it does not fit the unit of mint (number of mints) - 1 - k; NONE if the"
+            + " coin is not false or there is no such mint; UNKNOWN if there is no such coin; OUTSIDE if k is"
+            + " negative.");
         // 100 with up to 5 of wear: 12 * 8 is light, 106 is heavy, 99 is between.
         String coin = "H10c1005";
         String[] mints = {"", "m008", "m008m106", "m008m106m099", "m099m106m008"};
@@ -100,6 +101,14 @@ public final class UnitEdgesTest {
     }
 
     private static void explains() {
+        edges.sentence("0 for the number of coins that it explains, 1 for the set of these coins (bit k for coin k), 2"
+            + " for the sum of their losses by it, 3 for its rank");
+        // Two coins by 12, 6, 4, 3 and 2 with a loss of 1 and by 13 with 2; one by 24, 11, 8 and 1.
+        CommonUnits y = Check.of("H10c0112c0130c0240");
+        edges.all("12 explains 11 and 24", Edges.unitAll(y, 12), 2, 5, 1, 0);
+        edges.all("13 explains 11 and 13", Edges.unitAll(y, 13), 2, 3, 2, 5);
+        edges.all("1 explains 11", Edges.unitAll(y, 1), 1, 1, 0, 9);
+        edges.all("999 explains none", Edges.unitAll(y, 999), 0, 0, 0, 10);
         edges.sentence("A unit explains the coins that are not aside and fit it.");
         CommonUnits x = Check.of("H92" + "c0019".repeat(12));
         edges.due("all twelve", x.unit(183, 0), 12);
@@ -187,7 +196,7 @@ public final class UnitEdgesTest {
             edges.due("unit(" + unit + ", 3)", x.unit(unit, 3), unit - 1);
             edges.due("unit(" + unit + ", 2)", x.unit(unit, 2), 12 * (unit - 1));
         }
-        // Three coins with 1 + 1 by 2 and 2 + 1 by 3; two with 0 by 1, 1 by 12, 6 and 4, 2 by 13; one with 0 by 11 and so on.
+        // Three coins with losses of 2 by 2 and 3 by 3; two with 0 by 1, 1 by 12, 6 and 4, 2 by 13; then one coin.
         firstRanks(Check.of("H10c0132c0112c0120"), 2, 3, 1, 12, 6, 4, 13, 11, 14, 7, 15, 5, 999, 998);
     }
 
@@ -205,10 +214,10 @@ public final class UnitEdgesTest {
 
     /** The whole order, by objects that are asked for a part of it each. */
     private static void wholeRanking() {
-        edges.sentence("by the number of coins that they explain, the greatest first; units that explain equally many by the sum"
-            + " of the losses of these coins, the smallest first; of equal ones the greatest unit first.");
-        String[] texts = {"H92" + "c0019".repeat(12), "H10c0112c0240c9990c0010", "H21c1234c2345c3456c4567c5678c6789c7899",
-            "H92c9999c9989c5009c2509c1009c0019"};
+        edges.sentence("by the number of coins that they explain, the greatest first; units that explain equally many"
+            + " by the sum of the losses of these coins, the smallest first; of equal ones the greatest unit first.");
+        String[] texts = {"H92" + "c0019".repeat(12), "H10c0112c0240c9990c0010",
+            "H21c1234c2345c3456c4567c5678c6789c7899", "H92c9999c9989c5009c2509c1009c0019"};
         for (String text : texts) {
             boolean[] seen = new boolean[1000];
             int[] before = null;
@@ -319,5 +328,13 @@ public final class UnitEdgesTest {
             int asked = what;
             edges.asked(CommonUnits::new, "pair(" + what + ")", x -> x.pair(asked), wants[what]);
         }
+        edges.sentence("2 for the set of the coins that are not aside and fit at least one of both (bit k for coin k),"
+            + " 3 for the sum of their losses, as described above");
+        CommonUnits twelve = Check.of("H10" + "c9916".repeat(6) + "c9970".repeat(5) + "c9830");
+        edges.all("all twelve", Edges.pairAll(twelve), 983, 997, 4095, 36);
+        twelve.aside(0);
+        edges.all("without the first", Edges.pairAll(twelve), 983, 997, 4094, 30);
+        twelve.aside(11);
+        edges.all("without the last, so that no loss is needed", Edges.pairAll(twelve), 991, 997, 2046, 0);
     }
 }
