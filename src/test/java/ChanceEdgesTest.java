@@ -1,12 +1,9 @@
 import java.math.BigInteger;
-import java.util.Arrays;
 
 /** The edges of "Fractions" and of the promises 21 to 27 and 30, sentence by sentence. */
 public final class ChanceEdgesTest {
     private static final int UNKNOWN = Edges.UNKNOWN, OUTSIDE = Edges.OUTSIDE, STATE = Edges.STATE;
     private static final int FULL = Edges.FULL, NONE = Edges.NONE, MIN = Edges.MIN, MAX = Edges.MAX;
-    /** Primes without wear: each fits the unit of its own weight and no other. */
-    private static final int[] PRIMES = {9970, 9910, 9830, 9770, 9710, 9670, 9530, 9470, 9410, 9370, 9290, 9190};
     private static Edges edges;
 
     public static void main(String[] args) {
@@ -33,10 +30,6 @@ public final class ChanceEdgesTest {
         count();
         noneIsNoError();
         edges.end();
-    }
-
-    private static CommonUnits primes(int number) {
-        return Check.of(Edges.coins("H00", Arrays.copyOf(PRIMES, number)));
     }
 
     // ---- seen
@@ -178,7 +171,7 @@ public final class ChanceEdgesTest {
         edges.sentence("The share is the mean value of the set of all coins that have arrived after this coin has"
             + " arrived, minus that before.");
         for (int number = 1; number <= 8; number++) {
-            CommonUnits apart = primes(number);
+            CommonUnits apart = Edges.primes(number);
             CommonUnits together = Check.of("H00" + "c0120".repeat(number));
             for (int coin = 0; coin < number; coin++) {
                 edges.all("share of one of " + number + " that are apart", Edges.shareOf(apart, coin), 1, number);
@@ -187,7 +180,7 @@ public final class ChanceEdgesTest {
         }
         edges.sentence("(0 for the empty set)");
         edges.all("the only coin", Edges.shareOf(Check.of("H00c0120"), 0), 1, 1);
-        CommonUnits left = primes(2);
+        CommonUnits left = Edges.primes(2);
         left.aside(0);
         edges.all("the only coin that is not aside", Edges.shareOf(left, 1), 1, 1);
         edges.sentence("The value of a set of coins is the number of coins that the unit of rank 0 explains if all"
@@ -199,6 +192,18 @@ public final class ChanceEdgesTest {
         CommonUnits y = Check.of("H00" + "c0120".repeat(7) + "c0350");
         edges.all("the odd one of eight", Edges.shareOf(y, 7), 1, 8);
         edges.all("one of the other seven", Edges.shareOf(y, 0), 55, 56);
+        CommonUnits oddFirst = Check.of("H00c0350c0120c0240");
+        edges.all("the odd one, which is the first", Edges.shareOf(oddFirst, 0), 1, 3);
+        edges.all("one of the other two", Edges.shareOf(oddFirst, 1), 5, 6);
+        // The lightest coin fits the smallest unit alone, and by this unit 7 and 11 go together.
+        CommonUnits light = Check.of("H00c0010c0130c0170");
+        for (int coin = 0; coin < 3; coin++) {
+            edges.all("the lightest coin and two others", Edges.shareOf(light, coin), 1, 3);
+        }
+        CommonUnits small = Check.of("H00c0070c0110c0010");
+        for (int coin = 0; coin < 3; coin++) {
+            edges.all("coins that the unit 1 explains", Edges.shareOf(small, coin), 1, 1);
+        }
         edges.sentence("suppose that the coins that are not aside arrive one by one");
         y.aside(0);
         edges.all("the odd one of seven", Edges.shareOf(y, 7), 1, 7);
@@ -209,7 +214,7 @@ public final class ChanceEdgesTest {
 
     /** Twelve coins, of which the first are aside. */
     private static CommonUnits twelve(int aside) {
-        CommonUnits x = primes(12);
+        CommonUnits x = Edges.primes(12);
         for (int coin = 0; coin < aside; coin++) {
             x.aside(coin);
         }
@@ -220,7 +225,7 @@ public final class ChanceEdgesTest {
         edges.sentence("Returns that number; UNKNOWN if there is no such coin; STATE if the coin is aside or more than"
             + " 8 coins are not aside.");
         edges.all("eight of twelve are not aside", Edges.shareOf(twelve(4), 11), 1, 8);
-        edges.all("eight of eight", Edges.shareOf(primes(8), 7), 1, 8);
+        edges.all("eight of eight", Edges.shareOf(Edges.primes(8), 7), 1, 8);
         for (boolean upper : new boolean[] {true, false}) {
             edges.refused(() -> twelve(3), "share(11) of nine", x -> x.share(11, upper), STATE);
             edges.refused(() -> twelve(3), "share(0) of a coin aside, of nine", x -> x.share(0, upper), STATE);
@@ -243,13 +248,13 @@ public final class ChanceEdgesTest {
         edges.all("without coins, 0", Edges.lostOf(new CommonUnits(), 0), 1, 1);
         edges.all("without coins, 10", Edges.lostOf(new CommonUnits(), 10), 1, 1);
         // Apart: at most one may be left.
-        CommonUnits eight = primes(8);
+        CommonUnits eight = Edges.primes(8);
         edges.all("none is lost", Edges.lostOf(eight, 0), 0, 1);
         edges.all("1 of 10", Edges.lostOf(eight, 1), 73, 100000000);
         edges.all("5 of 10", Edges.lostOf(eight, 5), 9, 256);
         edges.all("9 of 10", Edges.lostOf(eight, 9), 81310473, 100000000);
         edges.all("all are lost", Edges.lostOf(eight, 10), 1, 1);
-        CommonUnits one = primes(1);
+        CommonUnits one = Edges.primes(1);
         for (int tenths = 0; tenths <= 10; tenths++) {
             edges.all("one coin, " + tenths, Edges.lostOf(one, tenths), 1, 1);
         }
@@ -257,7 +262,9 @@ public final class ChanceEdgesTest {
         for (int tenths = 0; tenths <= 10; tenths++) {
             edges.all("eight that go together, " + tenths, Edges.lostOf(together, tenths), 1, 1);
         }
-        CommonUnits x = primes(3);
+        edges.all("coins that the unit 1 explains", Edges.lostOf(Check.of("H00c0070c0110c0010"), 3), 1, 1);
+        edges.all("the lightest coin and two others", Edges.lostOf(Check.of("H00c0010c0130c0170"), 5), 1, 2);
+        CommonUnits x = Edges.primes(3);
         edges.all("three", Edges.lostOf(x, 5), 1, 2);
         x.aside(1);
         edges.all("two that are not aside", Edges.lostOf(x, 5), 3, 4);
@@ -287,7 +294,7 @@ public final class ChanceEdgesTest {
 
     private static void lowestTerms() {
         edges.sentence("A fraction is given in lowest terms with a positive denominator (0 is 0/1)");
-        CommonUnits two = primes(2);
+        CommonUnits two = Edges.primes(2);
         edges.all("0", Edges.lostOf(two, 0), 0, 1);
         int[][] wants = {{19, 100}, {9, 25}, {51, 100}, {16, 25}, {3, 4}, {21, 25}, {91, 100}, {24, 25},
             {99, 100}, {1, 1}};
@@ -509,7 +516,7 @@ public final class ChanceEdgesTest {
         }
         edges.sentence("5 for the set of the coins that are aside, 6 for the set of the coins that are false and not"
             + " aside");
-        CommonUnits x = primes(12);
+        CommonUnits x = Edges.primes(12);
         edges.due("all are false without mints", x.count(6), 4095);
         x.aside(11);
         edges.due("without the last", x.count(6), 2047);

@@ -1,6 +1,7 @@
 import java.io.IOException;
 import java.nio.file.Files;
 import java.nio.file.Path;
+import java.util.Arrays;
 import java.util.function.Supplier;
 
 /** What the tests of single sentences share: the sentence in hand, and calls that must change nothing. */
@@ -9,6 +10,9 @@ final class Edges {
 
     /** Numbers that are below or above every range of the document. */
     static final int MIN = Integer.MIN_VALUE, MAX = Integer.MAX_VALUE;
+
+    /** Coins of no years whose weights are primes: each fits the unit of its own weight and no other. */
+    private static final int[] PRIMES = {9970, 9910, 9830, 9770, 9710, 9670, 9530, 9470, 9410, 9370, 9290, 9190};
 
     /** One call. */
     interface Call {
@@ -142,6 +146,11 @@ final class Edges {
             text.append(String.format("c%04d", coin));
         }
         return text.toString();
+    }
+
+    /** So many coins, no two of which have a unit in common; the first is the heaviest. */
+    static CommonUnits primes(int number) {
+        return Check.of(coins("H00", Arrays.copyOf(PRIMES, number)));
     }
 
     static int[] fitsAll(CommonUnits x, int coin, int unit) {

@@ -110,7 +110,8 @@ public final class ErrorEdgesTest {
         all.put("ranked", new long[][] {{MIN, -1, 0, 1, 997, 998, 999, MAX}});
         all.put("pair", new long[][] {few});
         all.put("judge", new long[][] {few, {Long.MIN_VALUE, -1, 0, 702000, 999999, 1000000, 702000702000L,
-            999999999999L, 1000000000000L, 702000702000702000L, 999999999999999999L, 1000000000000000000L, Long.MAX_VALUE}});
+            999999999999L, 1000000000000L, 702000702000702000L, 999999999999999999L, 1000000000000000000L,
+            Long.MAX_VALUE}});
         all.put("see", new long[][] {coin, few});
         all.put("which", new long[][] {few});
         all.put("share", new long[][] {coin, upper});

@@ -179,6 +179,9 @@ public final class JudgeEdgesTest {
         steps(new CommonUnits(), 1, 600999, NONE);
         steps(new CommonUnits(), 1, 600998, 0);
         steps(new CommonUnits(), 1, 600001, 0);
+        steps(Edges.primes(12), 1, 600997, NONE);
+        steps(Edges.primes(12), 1, 600999, 0);
+        steps(Check.of("H92" + "c0019".repeat(12)), 1, 600001, NONE);
         steps(Check.of("H00c0010"), 1, 600001, NONE);
         steps(Check.of("H00c0010"), 1, 600999, 0);
         steps(Check.of("H00c9990"), 1, 600999, NONE);

@@ -181,6 +181,7 @@ public final class UnitEdgesTest {
         edges.due("one coin without loss, half the unit", x.unit(499, 3), 184);
         edges.due("no coin", x.unit(999, 3), 185);
         edges.due("no coin, the smallest such unit", x.unit(184, 3), 998);
+        firstRanks(Edges.primes(12), 997, 991, 983, 977, 971, 967, 953, 947, 941, 937, 929, 919, 999);
         // One coin with the greatest loss is still more than none.
         CommonUnits one = Check.of("H92c0019");
         edges.due("a loss of 182", one.unit(183, 3), 182);
@@ -282,6 +283,9 @@ public final class UnitEdgesTest {
         // Ten coins of 991 that may have lost 6: by 997 they lose 60 in all, and still one coin more fits.
         pairOf("H10c9970c9830" + "c9916".repeat(10), 983, 997, 4095, 60);
         pairOf("H10c9970c9830" + "c9915".repeat(10), 983, 991, 4094, 0);
+        edges.all("twelve that are apart", Edges.pairAll(Edges.primes(12)), 919, 929, 3072, 0);
+        // 1 and 991 explain three coins, and so do 991 and 997.
+        pairOf("H10c9910c9970c9916c0010", 1, 991, 13, 0);
         CommonUnits x = Check.of("H10c9970c9916c9830");
         x.aside(1);
         edges.all("without the middle one", Edges.pairAll(x), 983, 997, 5, 0);
